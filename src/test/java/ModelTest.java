@@ -46,10 +46,17 @@ public final class ModelTest {
     }
 
     private void run(long seed) {
-        prepare();
+        boolean staged = seed % 2 == 0;
+        if (staged) {
+            stage();
+        } else {
+            prepare();
+        }
         for (int k = 0; k < 150; k++) {
             String call = "run " + seed + ", call " + k + ": ";
-            if (random.nextInt(3) == 0) {
+            if (staged && random.nextInt(4) == 0) {
+                book(call);
+            } else if (staged ? random.nextInt(12) == 0 : random.nextInt(3) == 0) {
                 change(call);
             } else {
                 ask(call);
@@ -86,6 +93,24 @@ public final class ModelTest {
         walk("prepare: ");
         heights("prepare: ", 50);
         grid("prepare: ");
+    }
+
+    /** A room in which the settings of its grid differ in what is seen, if one is found soon. */
+    private void stage() {
+        for (int k = 0; k < 4; k++) {
+            seat("stage: ");
+        }
+        walk("stage: ");
+        for (int tries = 0; tries < 300; tries++) {
+            glass("stage: ");
+            heights("stage: ", 30);
+            seat("stage: ");
+            grid("stage: ");
+            if (pane.all(4) > 1 && pane.tried(0) < pane.tried(1 + random.nextInt(pane.all(4) - 1))) {
+                break;
+            }
+        }
+        wall("stage: ");
     }
 
     private void change(String at) {
