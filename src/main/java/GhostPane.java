@@ -1449,7 +1449,6 @@ public final class GhostPane {
         final int[] places = new int[WAY];
         private final boolean[] face = new boolean[WAY + 1];
         private final boolean[] banned = new boolean[WAY + 1];
-        private final int[] draft = new int[WAY];
 
         void clearFaces() {
             for (int p = 0; p <= WAY; p++) {
@@ -1485,26 +1484,36 @@ public final class GhostPane {
          * and of those the one that is farther on. Without a way what was found before stays.
          */
         boolean find(int longest) {
-            int at = 0;
-            int many = 0;
-            for (int step = 0; step < WAY && at + longest < WAY; step++) {
-                int next = farthest(at, longest);
-                if (next == at || many >= draft.length) {
-                    return false;
-                }
-                draft[many] = next;
-                many++;
-                at = next;
+            int many = stepsOf(longest);
+            if (many < 0) {
+                return false;
             }
-            for (int k = 0; k < many; k++) {
-                places[k] = draft[k];
+            int at = 0;
+            for (int k = 0; k < many && k < WAY; k++) {
+                at = farthest(at, longest);
+                places[k] = at;
             }
             found = many;
             return true;
         }
 
+        /** How many JOINS the way takes; NONE when there is no way. */
+        private int stepsOf(int longest) {
+            int at = 0;
+            int many = 0;
+            while (many < WAY && at + longest < WAY) {
+                int next = farthest(at, longest);
+                if (next == at) {
+                    return NONE;
+                }
+                at = next;
+                many++;
+            }
+            return many;
+        }
+
         private int farthest(int from, int longest) {
-            for (int p = Math.min(WAY - 1, from + longest); p > from; p--) {
+            for (int p = Math.min(WAY, from + longest); p > from; p--) {
                 if (!banned[p]) {
                     return p;
                 }

@@ -9,6 +9,7 @@ public final class BookTest {
         quarrels();
         likelyAndSince();
         sinceChanges();
+        fullSince();
         DUE.end();
     }
 
@@ -143,6 +144,32 @@ public final class BookTest {
         x.grid(7, 0, 0, 1, 0);
         DUE.is("without a grid", x.likely(-1), -1);
         DUE.is("without a grid", x.since(), -1);
+    }
+
+    /** A book of 100 acts, the last one of which makes another setting LIKELY. */
+    private static void fullSince() {
+        GhostPane x = theatre();
+        x.report(0, 0, true);
+        DUE.is("void_(1)", x.void_(1), 2);
+        DUE.is("the first act made void", x.quarrels(0, -1), 0);
+        DUE.is("since", x.since(), 2);
+        for (int act = 3; act <= 99; act++) {
+            x.report(0, 3, true);
+        }
+        DUE.is("since", x.since(), 2);
+        x.report(0, 2, true);
+        DUE.is("likely", x.likely(100), 1);
+        DUE.is("since the last", x.since(), 100);
+        x.grid(2, 0, 1, 1, 0);
+        DUE.is("neither", x.likely(-1), 0);
+        DUE.is("since all of it", x.since(), 0);
+        Due.walk(x, "go to 1000 in 3; stay 10;");
+        x.grid(3, 0, 2, 1, 0);
+        DUE.is("the same with a longer walk", x.since(), 100);
+        Due.walk(x, "go to 1000 in 2;");
+        DUE.is("a count that is none any more", x.quarrels(0, 99), 97);
+        x.gone(0, 0);
+        DUE.is("a seat that is none any more", x.quarrels(0, 100), 98);
     }
 
     private static void sinceChanges() {

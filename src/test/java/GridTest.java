@@ -77,6 +77,7 @@ public final class GridTest {
             DUE.is("take", x.take(k), true);
             int i = k / 3;
             DUE.is("L by " + k, x.of(0, 0, 2), 9L * i * i + (20L + i) * (20 + i));
+            DUE.is("ALONG by " + k, x.of(1, 0, 0), 3 * i);
             DUE.is("feet by " + k, x.count(0, 4), 10 - 7 * (k % 3));
         }
     }
@@ -93,6 +94,8 @@ public final class GridTest {
         DUE.is("tried -1", x.tried(-1), -1);
         DUE.is("best", x.best(), 2);
         DUE.is("the room is as it was", x.house(), 1);
+        x.grid(2, 0, 2, 1, 0);
+        DUE.is("best of two", x.best(), 1);
         x.grid(6, 0, 2, 1, 0);
         DUE.is("of several the least", x.best(), 2);
         x.grid(2, 0, 4, 3, 5);

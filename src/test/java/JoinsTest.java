@@ -7,6 +7,7 @@ public final class JoinsTest {
         oneFace();
         manyFaces();
         whichFaces();
+        facesAtEnds();
         latest();
         DUE.end();
     }
@@ -108,6 +109,27 @@ public final class JoinsTest {
         joined(x, 500, 1, 499, 999);
         Due.walk(x, "light off; stay 1; light on; rise 10 in 2; light off;");
         joined(x, 525, 1, 524);
+    }
+
+    private static void facesAtEnds() {
+        GhostPane x = faceAt(500);
+        x.seat(0, -40, 92);
+        x.pane(0, -100, 0, 50);
+        DUE.is("where", x.where(0, -40, 8), 1000);
+        joined(x, 999, 1, 999);
+        joined(x, 999, 2, 998);
+        joined(x, 999, 100, 900);
+        x.pane(0, 50, 0, -100);
+        DUE.is("where", x.where(0, -40, 8), 0);
+        joined(x, 999, 100, 999);
+        DUE.is("no way from A", x.joins(99, 100), -2);
+        DUE.is("a way from A", x.joins(100, 100), 9);
+        DUE.is("the first", x.join(0), 100);
+        x.pane(0, -100, 0, 50);
+        DUE.is("no way to B", x.joins(99, 100), -2);
+        x.gone(0, 0);
+        joined(x, 999, 2, 999);
+        DUE.is("no face any more", x.joins(50, 100), 19);
     }
 
     private static void latest() {

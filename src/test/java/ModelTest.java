@@ -8,10 +8,13 @@ public final class ModelTest {
     private final GhostPane pane = new GhostPane();
     private final Model model = new Model();
     private final int step;
+    /** Small rooms have more places that meet. */
+    private final int range;
 
     private ModelTest(long seed) {
         random = new Random(seed);
         step = new int[] {1, 5, 10, 20, 25}[random.nextInt(5)];
+        range = step == 1 ? 2 + random.nextInt(6) : 100 / step;
     }
 
     public static void main(String[] args) {
@@ -68,7 +71,6 @@ public final class ModelTest {
         if (random.nextInt(60) == 0) {
             return random.nextBoolean() ? 101 : -101;
         }
-        int range = 100 / step;
         return step * (random.nextInt(2 * range + 1) - range);
     }
 
@@ -76,7 +78,7 @@ public final class ModelTest {
         if (random.nextInt(60) == 0) {
             return random.nextBoolean() ? 201 : -201;
         }
-        return random.nextInt(4) == 0 ? random.nextInt(401) - 200 : place();
+        return random.nextInt(step == 1 ? 20 : 4) == 0 ? random.nextInt(401) - 200 : place();
     }
 
     private int some(int many) {
@@ -185,8 +187,8 @@ public final class ModelTest {
         int t = some(8);
         int a = place();
         int b = place();
-        int c = a + random.nextInt(60);
-        int d = b + random.nextInt(60);
+        int c = a + random.nextInt(Math.min(60, step * range));
+        int d = b + random.nextInt(Math.min(60, step * range));
         DUE.is(at + "thing", pane.thing(t, a, c, b, d), model.thing(t, a, c, b, d));
     }
 

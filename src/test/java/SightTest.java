@@ -66,6 +66,8 @@ public final class SightTest {
         DUE.is("an eye on the other side", x.sees(2, 60, 10), 1);
         DUE.is("an eye on the other side", x.where(2, 60, 10), 250);
         DUE.is("both below, other way round", x.sees(2, -60, 10), 0);
+        DUE.is("on the glass, from the other side", x.where(2, 0, 10), -1);
+        DUE.is("an eye on the glass, from the other side", x.where(1, 60, 10), -1);
         for (int bad : new int[] {-201, 201, Integer.MIN_VALUE, Integer.MAX_VALUE}) {
             DUE.is("sees x", x.sees(0, bad, 0), -1);
             DUE.is("sees y", x.sees(0, 0, bad), -1);
@@ -152,6 +154,12 @@ public final class SightTest {
         DUE.is("over all of it", x.blocks(0, -60, 10, 0), 1);
         x.wall(0, -90, 36, 90, 6, false);
         DUE.is("beside it", x.blocks(0, -60, 10, 0), 0);
+        x.wall(0, -72, 32, 30, 60, false);
+        DUE.is("one end on the line's way, behind the eye", x.blocks(0, -60, 10, 0), 0);
+        x.wall(0, 30, 60, -72, 32, false);
+        DUE.is("one end on the line's way, behind the eye", x.blocks(0, -60, 10, 0), 0);
+        x.wall(0, 12, 18, -40, -50, false);
+        DUE.is("one end on the line's way, behind X", x.blocks(0, -60, 10, 0), 0);
         x.wall(0, -66, 9, -60, 10, false);
         DUE.is("what is on it, seen along", x.sees(0, -60, 10), 1);
         x.wall(0, -66, 9, -54, 11, false);
@@ -193,10 +201,7 @@ public final class SightTest {
         DUE.is("its second end is seen", x.shows(0, 0), 1);
         x.wall(0, -60, 10, 40, 10, false);
         DUE.is("its first end is seen", x.shows(0, 0), 1);
-        x.wall(0, -60, 131, -60, -31, false);
-        DUE.is("its middle is seen", x.shows(0, 0), 1);
-        x.wall(0, -60, 131, -61, -30, false);
-        DUE.is("a middle between places", x.shows(0, 0), 1);
+        middle();
         x.wall(0, 20, 10, 60, 10, false);
         DUE.is("behind the glass", x.shows(0, 0), 0);
         x.wall(0, -60, -31, -60, -33, false);
@@ -220,6 +225,31 @@ public final class SightTest {
         for (int bad : new int[] {-1, 1, 8, Integer.MIN_VALUE, Integer.MAX_VALUE}) {
             DUE.is("no such seat", x.shows(0, bad), -1);
         }
+    }
+
+    /** Both ends are out of sight. */
+    private static void middle() {
+        GhostPane x = upright();
+        x.pane(0, 10, 0, 40);
+        DUE.is("wall", x.wall(0, -60, 100, -60, -100, false), true);
+        DUE.is("no end is seen", x.sees(0, -60, 100) + x.sees(0, -60, -100), 0);
+        DUE.is("its middle is seen", x.shows(0, 0), 1);
+        DUE.is("wall", x.wall(0, -60, 100, -71, -99, false), true);
+        DUE.is("no end is seen", x.sees(0, -60, 100) + x.sees(0, -71, -99), 0);
+        DUE.is("a middle between places", x.shows(0, 0), 1);
+        DUE.is("wall", x.wall(0, -60, 100, -60, -61, false), true);
+        DUE.is("a middle at 19.5", x.shows(0, 0), 1);
+        x.pane(0, 10, 0, 24);
+        DUE.is("a middle at 19.5 is out of sight", x.shows(0, 0), 0);
+        x.pane(0, 10, 0, 25);
+        DUE.is("a middle at 19.5 is in sight", x.shows(0, 0), 1);
+        x.wall(0, -60, 100, -60, -60, false);
+        DUE.is("a middle at 20 is at the edge", x.shows(0, 0), 1);
+        x.wall(0, -60, 100, -60, -59, false);
+        DUE.is("a middle at 20.5 is out of sight", x.shows(0, 0), 0);
+        x.wall(0, -60, 100, -60, -59, true);
+        x.heights(0, 4, 1);
+        DUE.is("lowered into sight", x.shows(0, 0), 1);
     }
 
     private static void black() {

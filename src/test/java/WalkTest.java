@@ -6,6 +6,7 @@ public final class WalkTest {
         statements();
         counts();
         figures();
+        walkAfterWalk();
         blanks();
         wrongBytes();
         endsTooSoon();
@@ -90,6 +91,14 @@ public final class WalkTest {
         DUE.is("x in the rise", x.count(3, 3), 10 - 3);
         DUE.is("y in the rise", x.count(3, 4), 13 + 5);
         DUE.is("y after it", x.count(4, 4), 13);
+        x.board(0, -100, 1, 100);
+        x.heights(0, 4, 0);
+        Due.walk(x, "go to 5 in 1; at 5; go to 10 in 5; go to 995 in 1;");
+        DUE.is("200 at 5 thousandths", x.count(1, 4), -99);
+        DUE.is("200 at 9 thousandths", x.count(5, 4), -99);
+        DUE.is("200 at 10 thousandths", x.count(6, 4), -98);
+        DUE.is("200 at 995 thousandths", x.count(7, 4), 99);
+        DUE.is("1 at 995 thousandths", x.count(7, 3), 0);
     }
 
     private static void figures() {
@@ -102,11 +111,31 @@ public final class WalkTest {
         spots("figure abcdef [ at 5; ]; figure abcde [ at 6; ]; do abcdef;", 5);
         spots("figure a [ stay 1; ]; do a; figure b [ do a; at 4; do a; ]; do b;", 0, 0, 4, 4);
         spots("figure a [ repeat 0 [ at 5; ]; ]; at 2; do a;", 2);
+        spots("figure az [ at 5; ]; figure AZ [ at 6; ]; figure zA [ at 7; ]; do AZ;", 6);
+        spots("figure ab [ at 5; ]; figure cb [ at 6; ]; do ab;", 5);
         lights("figure a [ light off; ]; stay 1; do a; stay 1;", 1, 0, 0);
         spots("figure a [ repeat 2 [ stay 1; ]; ]; repeat 2 [ do a; at 7; ]; do a;", 0, 0, 7, 7, 7, 7, 7);
         GhostPane x = new GhostPane();
         DUE.walks(x, "figure a [ stay 200; stay 200; ]; stay 1;", 1);
         DUE.walks(x, "figure a [ stay 200; stay 200; ]; repeat 0 [ do a; ];", 0);
+    }
+
+    private static void walkAfterWalk() {
+        GhostPane x = new GhostPane();
+        DUE.walks(x, "at 5; light off; rise 40 in 2;", 2);
+        DUE.walks(x, "stay 2;", 2);
+        for (int c = 0; c <= 2; c++) {
+            DUE.is("spot", x.count(c, 0), 0);
+            DUE.is("height", x.count(c, 1), 0);
+            DUE.is("light", x.count(c, 2), 1);
+        }
+        DUE.walks(x, "repeat 2[ light off; ];", 0);
+        DUE.walks(x, "repeat 2[ at 3; ];", 0);
+        DUE.is("spot", x.count(0, 0), 3);
+        DUE.is("light", x.count(0, 2), 1);
+        DUE.walks(x, "repeat 2[ light off; ];", 0);
+        DUE.is("spot", x.count(0, 0), 0);
+        DUE.is("light", x.count(0, 2), 0);
     }
 
     private static void blanks() {
