@@ -382,7 +382,7 @@ public final class GhostPane {
             return NONE;
         }
         int number = 0;
-        int least = Integer.MAX_VALUE;
+        int least = Book.MOST + 1;
         for (int k = 0; k < grid.settings(); k++) {
             show.laySetting(grid, k);
             book.tally(show, known);
@@ -1524,7 +1524,7 @@ public final class GhostPane {
 
     /** THE BOOK: its ACTS, numbered from 1 on. */
     private static final class Book {
-        private static final int MOST = 100;
+        static final int MOST = 100;
         private static final int A_REPORT = 0;
 
         int acts;
@@ -1593,7 +1593,7 @@ public final class GhostPane {
 
         void clearLikely() {
             for (int act = 0; act <= MOST; act++) {
-                least[act] = Integer.MAX_VALUE;
+                least[act] = MOST + 1;
                 likeliest[act] = NONE;
             }
         }

@@ -24,7 +24,7 @@ public final class LanguageTest {
     };
     private static final String[] RULED_OUT = {
         "throw", "try", "catch", "finally", "synchronized", "assert", "import", "package", "protected", "native", "volatile",
-        "transient", "strictfp", "var", "instanceof", "Object", "System", "Thread", "Random", "hashCode", "toString",
+        "transient", "strictfp", "var", "instanceof", "Integer", "Object", "System", "Thread", "Random", "hashCode", "toString",
     };
 
     public static void main(String[] args) throws Exception {
