@@ -202,6 +202,10 @@ final class BookEdges {
         edge.is("all with a QUARREL more", x.likely(-1), 0);
         x.report(0, 1, true);
         edge.is("the greatest number", x.likely(-1), 2);
+        x = Stage.small();
+        x.grid(2, 0, 2, 1, 0);
+        x.report(0, 0, true);
+        edge.is("none behind the last SETTING, with fewer QUARRELS", x.likely(-1), 0);
         GhostPane all = Stage.booked(0);
         for (int act = 1; act <= 100; act++) {
             all.report(5, 0, true);
@@ -233,6 +237,13 @@ final class BookEdges {
         edge.is("another one again", x.since(), 6);
         x.grid(1, 0, 0, 1, 0);
         edge.is("one SETTING: ever the same", x.since(), 0);
+        x = Stage.small();
+        x.report(0, 2, true);
+        edge.is("SETTING 0, and then 1 from ACT 1 on", x.since(), 1);
+        x = Stage.small();
+        x.grid(2, 0, 2, 1, 0);
+        x.report(0, 0, true);
+        edge.is("none behind the last SETTING, with fewer QUARRELS", x.since(), 0);
     }
 
     private static void sinceFull(Edge edge) {
@@ -245,6 +256,14 @@ final class BookEdges {
         x.void_(1);
         edge.is("ACT 100 alone", x.since(), 100);
         edge.is("ACTS", x.all(3), 100);
+        x = Stage.small();
+        for (int act = 1; act <= 100; act++) {
+            x.report(0, act < 100 ? 3 : 2, true);
+        }
+        edge.is("another one at ACT 100", x.since(), 100);
+        x.gone(0, 0);
+        edge.is("none sees: ever the same", x.since(), 0);
+        edge.is("with 100 QUARRELS each", x.quarrels(2, 100), 100);
     }
 
     private static GhostPane tight() {

@@ -179,6 +179,8 @@ final class GridEdges {
         edge.leaves("THE ROOM as it is", x -> x.best());
         GhostPane x = Stage.small();
         edge.is("the greatest HOUSE is the last one's", x.best(), 2);
+        x.grid(2, 0, 2, 1, 0);
+        edge.is("none behind the last SETTING, by which more were seen", x.best(), 1);
         x.grid(6, 0, 2, 1, 0);
         edge.is("of several the least number", x.best(), 2);
         x.grid(1, 0, 0, 1, 0);

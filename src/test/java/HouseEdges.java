@@ -80,6 +80,12 @@ final class HouseEdges {
         spots(edge, "at 9; rise 40 in 2; stay 1;", 9, 9, 9, 9);
         spots(edge, "repeat 0[at 7;];", 0);
         spots(edge, "repeat 20[at 7;];", 7);
+        spots(edge, "repeat 2[repeat 2[stay 1; at 9;]; at 2;];", 0, 9, 2, 9, 2);
+        spots(edge, "repeat 2[repeat 2[stay 1;]; go to 3 in 1;];", 0, 0, 0, 3, 3, 3, 3);
+        spots(edge, "figure a[at 7;]; do a;", 7);
+        spots(edge, "figure a[at 7;]; figure b[]; at 5; do b;", 5);
+        spots(edge, "figure a[at 7; stay 1; at 8;]; at 5; do a; at 6; do a;", 7, 7, 8);
+        spots(edge, "repeat 2[at 7;]; repeat 2[light on;]; at 5; repeat 2[];", 5);
         GhostPane x = walked("at 1000; go to 0 in 200; stay 40;");
         edge.is("the longest go, its 1st count", x.count(1, 0), 995);
         edge.is("the longest go, its 199th count", x.count(199, 0), 5);
@@ -111,8 +117,9 @@ final class HouseEdges {
 
     private static void light(Edge edge) {
         String[] texts = {"light off;", "light off; light on;", "stay 1; light off; stay 1; light on; stay 1;",
-            "light off; rise 3 in 2; light on;", "stay 1; light off; light on; light off;"};
-        int[][] due = {{0}, {1}, {1, 0, 1, 1}, {0, 0, 1}, {1, 0}};
+            "light off; rise 3 in 2; light on;", "stay 1; light off; light on; light off;", "figure a[light off;]; do a;",
+            "repeat 2[light off;]; stay 1;", "figure a[light off;]; figure b[at 5;]; do b;", "repeat 0[light off;];"};
+        int[][] due = {{0}, {1}, {1, 0, 1, 1}, {0, 0, 1}, {1, 0}, {0}, {0, 0}, {1}, {1}};
         for (int k = 0; k < texts.length; k++) {
             GhostPane x = walked(texts[k]);
             for (int c = 0; c < due[k].length; c++) {
@@ -280,6 +287,9 @@ final class HouseEdges {
         edge.is("the last one alone", x.counts(0), 1);
         Due.walk(x, "stay 5; light off;");
         edge.is("all but the last one", x.counts(0), 5);
+        x.pane(0, 0, 0, 23);
+        Due.walk(x, "rise 40 in 2; stay 2;");
+        edge.is("all but that at which the FACE is above the glass", x.counts(0), 4);
         x.gone(0, 0);
         edge.is("a SEAT that is none any more", x.counts(0), -1);
     }

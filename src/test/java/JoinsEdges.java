@@ -133,6 +133,13 @@ final class JoinsEdges {
         edge.is("a sheet that is one shorter", x.joins(99, 100), -2);
         edge.is("J 1 at A", x.joins(1, 1), 999);
         edge.is("J 2 at A", x.joins(1, 2), -2);
+        x.gone(0, 0);
+        edge.is("no FACE at A any more", x.joins(1, 2), 999);
+        x.seat(0, -40, 92);
+        x.pane(0, -100, 0, 50);
+        edge.is("J 2 at B", x.joins(1, 2), -2);
+        x.gone(0, 0);
+        edge.is("no FACE at B any more", x.joins(1, 2), 999);
     }
 
     /** A FACE that a SEAT sees in light, be it HELD or not, and CLASH or not. */

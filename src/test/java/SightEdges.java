@@ -19,6 +19,8 @@ final class SightEdges {
         blocks(edge);
         blocksBits(edge);
         blocksAlong(edge);
+        blocksFromRight(edge);
+        blocksUpright(edge);
         shows(edge);
         showsMiddle(edge);
         showsItself(edge);
@@ -147,6 +149,14 @@ final class SightEdges {
         edge.is("at the PLACE alone", seenWith(-60, 10, -60, -60), 1);
         edge.is("through the PLACE", seenWith(-60, 15, -60, -60), 1);
         edge.is("between both lines", seenWith(-60, 20, -1, 20), 1);
+        edge.is("its end on the line to X, told the other way round", seenWith(-30, 25, -30, 60), 0);
+        edge.is("its end on the line to X, from below", seenWith(-30, 25, -30, 16), 0);
+        edge.is("the same, told the other way round", seenWith(-30, 16, -30, 25), 0);
+        edge.is("its end on the line from X, told the other way round", seenWith(-30, 15, -30, -60), 0);
+        edge.is("its end on the line from X, from above", seenWith(-30, 15, -30, 24), 0);
+        edge.is("the same, told the other way round", seenWith(-30, 24, -30, 15), 0);
+        edge.is("on the line's way, behind the eye", seenWith(-72, 32, -90, 90), 1);
+        edge.is("on the line's way, behind X", seenWith(12, 18, 90, 90), 1);
     }
 
     private static void where(Edge edge) {
@@ -264,6 +274,56 @@ final class SightEdges {
         edge.is("the line to X by that", alongToX(0, 20, -60, 10), 0);
     }
 
+    private static int fromRight(int what, int ax, int ay, int bx, int by) {
+        GhostPane x = Stage.upright();
+        x.seat(7, 60, 30);
+        x.wall(0, ax, ay, bx, by, false);
+        return x.blocks(7, 60, 10, what);
+    }
+
+    /** From 60, 30 to X 0, 20 and on to 60, 10. */
+    private static void blocksFromRight(Edge edge) {
+        edge.is("behind the eye at the right, up to it", fromRight(0, 72, 32, 60, 30), 0);
+        edge.is("past the eye at the right", fromRight(0, 72, 32, 54, 29), 1);
+        edge.is("from the eye at the right on", fromRight(0, 54, 29, 60, 30), 1);
+        edge.is("from the right up to X", fromRight(0, 6, 21, 0, 20), 1);
+        edge.is("from the right, from X on", fromRight(0, 0, 20, -6, 19), 0);
+        edge.is("from the right past X", fromRight(0, -6, 19, 6, 21), 1);
+        edge.is("from the right, behind X", fromRight(0, -6, 19, -12, 18), 0);
+        edge.is("from the right, all of it", fromRight(0, 60, 30, 0, 20), 1);
+        edge.is("to the right: beyond the PLACE", fromRight(1, 60, 10, 72, 8), 0);
+        edge.is("to the right: past the PLACE", fromRight(1, 72, 8, 54, 11), 1);
+        edge.is("to the right: behind X", fromRight(1, -6, 21, 0, 20), 0);
+        edge.is("to the right: from X on", fromRight(1, 0, 20, 6, 19), 1);
+        edge.is("an end on the way at the right", fromRight(0, 30, 25, 30, 90), 1);
+        edge.is("an end ahead of the way at the right", fromRight(0, 30, 26, 30, 90), 0);
+    }
+
+    /** A level glass: from 10, 50 straight down to X 10, 0, and up to 10, 40. */
+    private static int upright(int ax, int ay, int bx, int by) {
+        GhostPane x = new GhostPane();
+        x.pane(-80, 0, 80, 0);
+        x.seat(0, 10, 50);
+        x.wall(0, ax, ay, bx, by, false);
+        return 2 * x.blocks(0, 10, 40, 0) + x.blocks(0, 10, 40, 1);
+    }
+
+    private static void blocksUpright(Edge edge) {
+        edge.is("an upright WALL in both lines", upright(10, 20, 10, 30), 3);
+        edge.is("up to the eye and past the PLACE", upright(10, 45, 10, 50), 2);
+        edge.is("from the PLACE to the eye", upright(10, 40, 10, 50), 2);
+        edge.is("past the PLACE", upright(10, 39, 10, 50), 3);
+        edge.is("behind the eye", upright(10, 50, 10, 60), 0);
+        edge.is("past the eye", upright(10, 49, 10, 60), 2);
+        edge.is("below X", upright(10, 0, 10, -5), 0);
+        edge.is("past X", upright(10, 1, 10, -5), 3);
+        edge.is("beside both", upright(11, 0, 11, 60), 0);
+        edge.is("an end on both", upright(10, 20, 40, 20), 3);
+        edge.is("an end at the PLACE", upright(10, 40, 40, 40), 2);
+        edge.is("an end at the eye", upright(10, 50, 40, 50), 0);
+        edge.is("the glass's own way", upright(-80, 0, 80, 0), 0);
+    }
+
     private static int shown(int ax, int ay, int bx, int by) {
         GhostPane x = Stage.upright();
         x.wall(11, ax, ay, bx, by, false);
@@ -315,6 +375,15 @@ final class SightEdges {
         edge.is("its middle at x -60.5", x.shows(0, 0), 1);
         x.wall(1, -50, -100, -50, 21, false);
         edge.is("its middle behind another WALL", x.shows(0, 0), 0);
+        x = new GhostPane();
+        x.pane(0, 0, 0, 1);
+        x.seat(0, -60, 60);
+        x.wall(0, -3, 1, 2, -1, false);
+        edge.is("its middle at x -0.5, ahead of the glass", x.shows(0, 0), 1);
+        x.wall(0, -2, 1, 2, -1, false);
+        edge.is("its middle on the glass", x.shows(0, 0), 0);
+        x.wall(0, -2, 1, 3, -1, false);
+        edge.is("its middle at x 0.5, behind the glass", x.shows(0, 0), 0);
     }
 
     /** WALLS that end at the PLACE -60, 10, whose other end, on the glass, is seen by none. */

@@ -224,7 +224,8 @@ final class TextEdges {
         edge.walks(x, "figure a[]; figure ab[]; figure ba[]; do ba;", 0);
         edge.walks(x, "figure at[stay 3;]; do at;", 3);
         edge.walks(x, "figure figure[stay 3;]; do figure;", 3);
-        edge.walks(x, "figure zZ[stay 2;]; do zZ;", 2);
+        edge.walks(x, "figure azAZ[stay 2;]; do azAZ;", 2);
+        edge.fails(x, "figure azAZ[]; do azaz;", 3, 18);
         edge.walks(x, "figure a[];", 0);
         edge.fails(x, "do a;", 3, 3);
         edge.fails(x, "do a", 3, 3);
@@ -322,5 +323,16 @@ final class TextEdges {
         edge.fails(x, "stay 200;stay 41;" + " ".repeat(583), 5, 600);
         edge.fails(x, "figure a[" + "at 1;".repeat(118) + "x", 1, 599);
         edge.walks(x, " ".repeat(600), 0);
+        edge.fails(x, " ".repeat(598) + "do", 1, 600);
+        edge.fails(x, "figure ab[];" + " ".repeat(583) + "do cd", 3, 598);
+        edge.fails(x, "figure ab[];" + " ".repeat(583) + "do ab", 1, 600);
+        Due.type(x, "stay 12;");
+        x.end(3);
+        edge.is("bytes behind the end are not read", x.walk(), -1);
+        edge.is("bytes behind the end are not read", x.fault(1), 0);
+        Due.type(x, "stay 12;");
+        x.end(7);
+        edge.is("bytes behind the end are not read", x.walk(), -1);
+        edge.is("bytes behind the end are not read", x.fault(1), 7);
     }
 }
