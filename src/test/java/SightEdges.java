@@ -23,6 +23,7 @@ final class SightEdges {
         blocksUpright(edge);
         shows(edge);
         showsMiddle(edge);
+        showsMiddleAlong(edge);
         showsItself(edge);
         black(edge);
     }
@@ -384,6 +385,23 @@ final class SightEdges {
         edge.is("its middle on the glass", x.shows(0, 0), 0);
         x.wall(0, -2, 1, 3, -1, false);
         edge.is("its middle at x 0.5, behind the glass", x.shows(0, 0), 0);
+    }
+
+    /** The middle alone, at 10, 29.5, is seen straight up by a glass at y 50, or straight down by one at y 10. */
+    private static int middleAlong(int glassY, int eyeY, int from, int to) {
+        GhostPane x = new GhostPane();
+        x.pane(5, glassY, 15, glassY);
+        x.seat(0, 10, eyeY);
+        x.wall(0, -20, 29, 40, 30, false);
+        x.wall(1, 10, from, 10, to, false);
+        return x.shows(0, 0);
+    }
+
+    private static void showsMiddleAlong(Edge edge) {
+        edge.is("half of another WALL's end on the way up", middleAlong(50, 40, 30, 25), 0);
+        edge.is("another WALL beyond the middle", middleAlong(50, 40, 29, 25), 1);
+        edge.is("half of another WALL's end on the way down", middleAlong(10, 20, 29, 35), 0);
+        edge.is("another WALL beyond the middle", middleAlong(10, 20, 30, 35), 1);
     }
 
     /** WALLS that end at the PLACE -60, 10, whose other end, on the glass, is seen by none. */
